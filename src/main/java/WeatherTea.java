@@ -5,6 +5,8 @@ public final class WeatherTea {
     private static final int FED_BYTES = 20;
     private static final int WORD_BYTES = 10;
     private static final int NUMBER_BYTES = 6;
+    /** So small that a word of ten signs fits a long: letters, digits, and one more for no sign. */
+    private static final long WORD_BASE = 37;
     private static final int MOST_TOKENS = 400;
     private static final int MOST_DEPTH = 8;
     private static final int MOST_FRONTS = 10;
@@ -37,12 +39,9 @@ public final class WeatherTea {
 
     private final Tape tape;
     private final Tokens tokens;
-    private final Grammar grammar;
-    private final Checker checker;
     private final Pot pot;
     /** A second pot for what would be, made once, so that looking ahead makes no objects. */
     private final Pot trial;
-    private Plan plan;
     /** Where teach() builds, so that a plan with an error leaves the present one alone. */
     private Plan draft;
     private int errorPosition;
@@ -50,12 +49,9 @@ public final class WeatherTea {
     public WeatherTea() {
         tape = new Tape();
         tokens = new Tokens();
-        grammar = new Grammar(tokens);
-        checker = new Checker(tokens);
-        plan = new Plan();
+        pot = new Pot();
+        trial = new Pot();
         draft = new Plan();
-        pot = new Pot(plan);
-        trial = new Pot(plan);
         errorPosition = -1;
     }
 
@@ -84,28 +80,19 @@ public final class WeatherTea {
     public int teach() {
         tokens.readAll(tape);
         tape.length = 0;
-        int error = readDraft();
-        if (error == 0) {
-            Plan old = plan;
-            plan = draft;
-            draft = old;
-            pot.begin(plan);
-        }
-        return error;
-    }
-
-    private int readDraft() {
         draft.clear();
-        if (!grammar.fits(draft.orders)) {
-            errorPosition = tokens.startAt(grammar.at);
-            return NOT_A_PLAN;
+        Grammar.read(tokens, draft.orders);
+        if (tokens.error == 0) {
+            Checker.check(tokens, draft);
         }
-        int error = checker.check(draft);
-        if (error != 0) {
-            errorPosition = tokens.startAt(checker.errorToken);
-            return error;
+        if (tokens.error != 0) {
+            errorPosition = tokens.startAt(tokens.errorToken);
+            return tokens.error;
         }
         draft.orders.resolve(tokens);
+        Plan old = pot.plan;
+        pot.begin(draft);
+        draft = old;
         errorPosition = -1;
         return 0;
     }
@@ -117,11 +104,11 @@ public final class WeatherTea {
     // ---- the pot
 
     public int fronts() {
-        return plan.fronts.count;
+        return pot.plan.fronts.count;
     }
 
     public int guests() {
-        return plan.guests.count;
+        return pot.plan.guests.count;
     }
 
     public int hour() {
@@ -158,30 +145,30 @@ public final class WeatherTea {
 
     public int seatedGuests() {
         int seated = 0;
-        for (int i = 0; i < plan.guests.count; i++) {
+        for (int i = 0; i < pot.plan.guests.count; i++) {
             seated += oneIf(pot.sits(i));
         }
         return seated;
     }
 
     public int served() {
-        return countTrue(pot.guestServed, plan.guests.count);
+        return countTrue(pot.guestServed, pot.plan.guests.count);
     }
 
     public int stormed() {
-        return countTrue(pot.guestStormed, plan.guests.count);
+        return countTrue(pot.guestStormed, pot.plan.guests.count);
     }
 
     // ---- fronts
 
     public boolean isWarm(int front) throws IndexOutOfBoundsException {
         requireFront(front);
-        return plan.fronts.warm[front];
+        return pot.plan.fronts.warm[front];
     }
 
     public int forceOf(int front) throws IndexOutOfBoundsException {
         requireFront(front);
-        return plan.fronts.force[front];
+        return pot.plan.fronts.force[front];
     }
 
     public boolean isOver(int front) throws IndexOutOfBoundsException {
@@ -304,7 +291,7 @@ public final class WeatherTea {
     public int bestToSteep() {
         int best = -1;
         int mostContent = -1;
-        for (int i = 0; i < plan.fronts.count; i++) {
+        for (int i = 0; i < pot.plan.fronts.count; i++) {
             if (pot.hangsOver(i)) {
                 int content = pot.contentIfSteeped(i);
                 if (content > mostContent) {
@@ -319,9 +306,9 @@ public final class WeatherTea {
     public double meanForce() {
         int sum = 0;
         int over = 0;
-        for (int i = 0; i < plan.fronts.count; i++) {
+        for (int i = 0; i < pot.plan.fronts.count; i++) {
             if (pot.hangsOver(i)) {
-                sum += plan.fronts.force[i];
+                sum += pot.plan.fronts.force[i];
                 over++;
             }
         }
@@ -344,11 +331,11 @@ public final class WeatherTea {
         d = d * 31 + served();
         d = d * 31 + stormed();
         d = d * 31 + bestToSteep();
-        for (int i = 0; i < plan.fronts.count; i++) {
+        for (int i = 0; i < pot.plan.fronts.count; i++) {
             d = d * 31 + oneIf(pot.hangsOver(i));
             d = d * 31 + oneIf(pot.frontSteeped[i]);
         }
-        for (int i = 0; i < plan.guests.count; i++) {
+        for (int i = 0; i < pot.plan.guests.count; i++) {
             d = d * 31 + oneIf(pot.sits(i));
             d = d * 31 + oneIf(pot.wouldLike(i, pot.strength));
             d = d * 31 + oneIf(pot.guestServed[i]);
@@ -358,13 +345,13 @@ public final class WeatherTea {
     }
 
     private void requireFront(int front) {
-        if (!plan.fronts.has(front)) {
+        if (!pot.plan.fronts.has(front)) {
             throw new IndexOutOfBoundsException("there is no such front");
         }
     }
 
     private void requireGuest(int guest) {
-        if (!plan.guests.has(guest)) {
+        if (!pot.plan.guests.has(guest)) {
             throw new IndexOutOfBoundsException("there is no such guest");
         }
     }
@@ -448,48 +435,32 @@ public final class WeatherTea {
         }
     }
 
-    /** The tokens of a tape; the last one is always END or BAD. */
+    /** The tokens of a tape, with a cursor that reads them once and the first error that was found in them. */
     private static final class Tokens {
         private final Kind[] kinds;
         private final int[] starts;
         /** What a number is; of a word a number that no other word has, and later which front or guest it names. */
         private final long[] values;
         int count;
+        int cursor;
+        int error;
+        int errorToken;
 
         Tokens() {
             kinds = new Kind[MOST_TOKENS + 1];
             starts = new int[MOST_TOKENS + 1];
             values = new long[MOST_TOKENS + 1];
-            count = 0;
             for (int i = 0; i <= MOST_TOKENS; i++) {
                 kinds[i] = Kind.END;
             }
         }
 
-        boolean has(int token) {
-            return token >= 0 && token < count && token <= MOST_TOKENS;
-        }
-
-        Kind kindAt(int token) {
-            return has(token) ? kinds[token] : Kind.END;
-        }
-
-        int startAt(int token) {
-            return has(token) ? starts[token] : 0;
-        }
-
-        long valueAt(int token) {
-            return has(token) ? values[token] : 0;
-        }
-
-        void setValue(int token, long value) {
-            if (has(token)) {
-                values[token] = value;
-            }
-        }
-
+        /** Behind the last token stands END, or BAD if there is more on the tape. */
         void readAll(Tape tape) {
             count = 0;
+            cursor = 0;
+            error = 0;
+            errorToken = 0;
             int at = behindBlanks(tape, 0);
             for (int i = 0; i < MOST_TOKENS && at < tape.length; i++) {
                 int size = sizeOf(tape, at);
@@ -554,10 +525,14 @@ public final class WeatherTea {
             long value = 0;
             for (int i = 0; i < size; i++) {
                 int sign = tape.byteAt(start + i);
-                // Ten signs of 7 bits each do not fit, but ten of 37 do: words stay apart.
-                value = number ? value * 10 + (sign - '0') : value * 37 + (isDigit(sign) ? sign - '0' : sign - 'a' + 10) + 1;
+                value = number ? value * 10 + (sign - '0') : value * WORD_BASE + wordSign(sign);
             }
             return value;
+        }
+
+        /** Not 0 for any sign, so that no word has the value of a longer one. */
+        private static int wordSign(int sign) {
+            return isDigit(sign) ? sign - '0' + 1 : sign - 'a' + 11;
         }
 
         private static boolean isLetter(int sign) {
@@ -567,149 +542,169 @@ public final class WeatherTea {
         private static boolean isDigit(int sign) {
             return sign >= '0' && sign <= '9';
         }
-    }
 
-    /** Looks whether tokens are a plan, and writes down the orders with the steps of their tests. */
-    private static final class Grammar {
-        private final Tokens tokens;
-        private Orders orders;
-        /** The token to be looked at; if the tokens do not fit, the first with which they do not. */
-        int at;
-
-        Grammar(Tokens tokens) {
-            this.tokens = tokens;
-            this.orders = new Orders();
-            this.at = 0;
+        boolean has(int token) {
+            return token >= 0 && token < count && token <= MOST_TOKENS;
         }
 
-        boolean fits(Orders into) {
-            orders = into;
-            at = 0;
-            for (int i = 0; i <= MOST_TOKENS && !is(Kind.END); i++) {
-                if (!line() || !take(Kind.SEMICOLON)) {
-                    return false;
-                }
+        Kind kindAt(int token) {
+            return has(token) ? kinds[token] : Kind.END;
+        }
+
+        int startAt(int token) {
+            return has(token) ? starts[token] : 0;
+        }
+
+        long valueAt(int token) {
+            return has(token) ? values[token] : 0;
+        }
+
+        void setValue(int token, int value) {
+            if (has(token)) {
+                values[token] = value;
             }
-            return is(Kind.END);
         }
 
-        private boolean is(Kind kind) {
-            return tokens.kindAt(at) == kind;
+        Kind next() {
+            return kindAt(cursor);
         }
 
-        private boolean take(Kind kind) {
-            if (!is(kind)) {
+        boolean take(Kind kind) {
+            if (next() != kind) {
                 return false;
             }
-            at++;
+            cursor++;
             return true;
         }
 
-        private boolean line() {
-            if (take(Kind.FRONT)) {
-                return take(Kind.NAME) && take(Kind.IS) && (take(Kind.WARM) || take(Kind.COLD))
-                        && takeNumber(Kind.FORCE) && takeNumber(Kind.AT) && takeNumber(Kind.FOR);
-            }
-            if (take(Kind.GUEST)) {
-                return take(Kind.NAME) && takeNumber(Kind.AT) && takeNumber(Kind.LIKES)
-                        && takeNumber(Kind.TO) && takeNumber(Kind.NERVE);
-            }
-            return order();
-        }
-
-        private boolean takeNumber(Kind ahead) {
+        boolean takeNumber(Kind ahead) {
             return take(ahead) && take(Kind.NUMBER);
         }
 
-        private boolean order() {
-            Kind deed = tokens.kindAt(at);
-            if (take(Kind.STEEP) || take(Kind.SERVE)) {
-                orders.add(deed, at);
-                if (!take(Kind.NAME)) {
-                    return false;
-                }
-            } else if (take(Kind.LEMON) || take(Kind.SAUCER)) {
-                orders.add(deed, at);
-            } else {
-                return false;
-            }
-            if (take(Kind.WHEN) && !test(0)) {
-                return false;
-            }
-            orders.endTest();
-            return true;
-        }
-
-        private boolean test(int depth) {
-            boolean fits = both(depth);
-            for (int i = 0; i < MOST_TOKENS && fits && take(Kind.OR); i++) {
-                fits = both(depth) && orders.addStep(Kind.OR, at);
-            }
-            return fits;
-        }
-
-        private boolean both(int depth) {
-            boolean fits = single(depth);
-            for (int i = 0; i < MOST_TOKENS && fits && take(Kind.AND); i++) {
-                fits = single(depth) && orders.addStep(Kind.AND, at);
-            }
-            return fits;
-        }
-
-        private boolean single(int depth) {
-            Kind kind = tokens.kindAt(at);
-            switch (kind) {
-                case NOT:
-                    return enter(Kind.NOT, depth) && single(depth + 1) && orders.addStep(Kind.NOT, at);
-                case OPEN_TEST:
-                    return enter(Kind.OPEN_TEST, depth) && test(depth + 1) && take(Kind.CLOSE_TEST);
-                case OVER:
-                case SEATED:
-                case CONTENT:
-                    at++;
-                    return orders.addStep(kind, at) && take(Kind.NAME);
-                default:
-                    return comparison(depth);
-            }
-        }
-
         /** What opens a greater depth does not fit where the depth would be too great behind it. */
-        private boolean enter(Kind opening, int depth) {
+        boolean takeOpening(Kind opening, int depth) {
             return depth < MOST_DEPTH && take(opening);
         }
 
-        private boolean comparison(int depth) {
-            if (!sum(depth)) {
+        /** An error found later does not take the place of an earlier one. */
+        void failUnless(boolean right, int number, int token) {
+            if (!right && error == 0) {
+                error = number;
+                errorToken = token;
+            }
+        }
+    }
+
+    /**
+     * Looks whether tokens are a plan, and writes down the orders with the steps of their tests. Each function returns
+     * whether the tokens fit; if not, the cursor stays at the first one that does not.
+     */
+    private static final class Grammar {
+
+        static void read(Tokens tokens, Orders orders) {
+            boolean fits = true;
+            for (int i = 0; i < MOST_TOKENS && fits && tokens.next() != Kind.END; i++) {
+                fits = line(tokens, orders) && tokens.take(Kind.SEMICOLON);
+            }
+            tokens.failUnless(tokens.next() == Kind.END && fits, NOT_A_PLAN, tokens.cursor);
+        }
+
+        private static boolean line(Tokens tokens, Orders orders) {
+            if (tokens.take(Kind.FRONT)) {
+                return tokens.take(Kind.NAME) && tokens.take(Kind.IS)
+                        && (tokens.take(Kind.WARM) || tokens.take(Kind.COLD))
+                        && tokens.takeNumber(Kind.FORCE) && tokens.takeNumber(Kind.AT) && tokens.takeNumber(Kind.FOR);
+            }
+            if (tokens.take(Kind.GUEST)) {
+                return tokens.take(Kind.NAME) && tokens.takeNumber(Kind.AT) && tokens.takeNumber(Kind.LIKES)
+                        && tokens.takeNumber(Kind.TO) && tokens.takeNumber(Kind.NERVE);
+            }
+            return order(tokens, orders);
+        }
+
+        private static boolean order(Tokens tokens, Orders orders) {
+            Kind deed = tokens.next();
+            if (tokens.take(Kind.STEEP) || tokens.take(Kind.SERVE)) {
+                orders.add(deed, tokens.cursor);
+                if (!tokens.take(Kind.NAME)) {
+                    return false;
+                }
+            } else if (tokens.take(Kind.LEMON) || tokens.take(Kind.SAUCER)) {
+                orders.add(deed, tokens.cursor);
+            } else {
                 return false;
             }
-            Kind sign = tokens.kindAt(at);
-            boolean fits = take(Kind.LESS) || take(Kind.MORE) || take(Kind.EQUAL)
-                    || take(Kind.AT_MOST) || take(Kind.AT_LEAST);
-            return fits && sum(depth) && orders.addStep(sign, at);
+            boolean fits = !tokens.take(Kind.WHEN) || test(tokens, orders, 0);
+            orders.endTest();
+            return fits;
         }
 
-        private boolean sum(int depth) {
-            boolean fits = product(depth);
-            for (int i = 0; i < MOST_TOKENS && fits && (is(Kind.PLUS) || is(Kind.MINUS)); i++) {
-                Kind sign = tokens.kindAt(at);
-                at++;
-                fits = product(depth) && orders.addStep(sign, at);
+        private static boolean test(Tokens tokens, Orders orders, int depth) {
+            boolean fits = both(tokens, orders, depth);
+            for (int i = 0; i < MOST_TOKENS && fits && tokens.take(Kind.OR); i++) {
+                fits = both(tokens, orders, depth) && orders.addStep(Kind.OR, 0);
             }
             return fits;
         }
 
-        private boolean product(int depth) {
-            boolean fits = value(depth);
-            for (int i = 0; i < MOST_TOKENS && fits && (is(Kind.TIMES) || is(Kind.DIVIDED)); i++) {
-                Kind sign = tokens.kindAt(at);
-                at++;
-                fits = value(depth) && orders.addStep(sign, at);
+        private static boolean both(Tokens tokens, Orders orders, int depth) {
+            boolean fits = single(tokens, orders, depth);
+            for (int i = 0; i < MOST_TOKENS && fits && tokens.take(Kind.AND); i++) {
+                fits = single(tokens, orders, depth) && orders.addStep(Kind.AND, 0);
             }
             return fits;
         }
 
-        private boolean value(int depth) {
-            Kind kind = tokens.kindAt(at);
+        private static boolean single(Tokens tokens, Orders orders, int depth) {
+            Kind kind = tokens.next();
+            switch (kind) {
+                case NOT:
+                    return tokens.takeOpening(Kind.NOT, depth) && single(tokens, orders, depth + 1)
+                            && orders.addStep(Kind.NOT, 0);
+                case OPEN_TEST:
+                    return tokens.takeOpening(Kind.OPEN_TEST, depth) && test(tokens, orders, depth + 1)
+                            && tokens.take(Kind.CLOSE_TEST);
+                case OVER:
+                case SEATED:
+                case CONTENT:
+                    return tokens.take(kind) && orders.addStep(kind, tokens.cursor) && tokens.take(Kind.NAME);
+                default:
+                    return comparison(tokens, orders, depth);
+            }
+        }
+
+        private static boolean comparison(Tokens tokens, Orders orders, int depth) {
+            if (!sum(tokens, orders, depth)) {
+                return false;
+            }
+            Kind sign = tokens.next();
+            boolean fits = tokens.take(Kind.LESS) || tokens.take(Kind.MORE) || tokens.take(Kind.EQUAL)
+                    || tokens.take(Kind.AT_MOST) || tokens.take(Kind.AT_LEAST);
+            return fits && sum(tokens, orders, depth) && orders.addStep(sign, 0);
+        }
+
+        private static boolean sum(Tokens tokens, Orders orders, int depth) {
+            boolean fits = product(tokens, orders, depth);
+            Kind sign = tokens.next();
+            for (int i = 0; i < MOST_TOKENS && fits && (tokens.take(Kind.PLUS) || tokens.take(Kind.MINUS)); i++) {
+                fits = product(tokens, orders, depth) && orders.addStep(sign, 0);
+                sign = tokens.next();
+            }
+            return fits;
+        }
+
+        private static boolean product(Tokens tokens, Orders orders, int depth) {
+            boolean fits = value(tokens, orders, depth);
+            Kind sign = tokens.next();
+            for (int i = 0; i < MOST_TOKENS && fits && (tokens.take(Kind.TIMES) || tokens.take(Kind.DIVIDED)); i++) {
+                fits = value(tokens, orders, depth) && orders.addStep(sign, 0);
+                sign = tokens.next();
+            }
+            return fits;
+        }
+
+        private static boolean value(Tokens tokens, Orders orders, int depth) {
+            Kind kind = tokens.next();
             switch (kind) {
                 case NUMBER:
                 case HOUR:
@@ -719,19 +714,21 @@ public final class WeatherTea {
                 case LEMONS:
                 case SAUCERS:
                 case STORMS:
-                    return orders.addStep(kind, at) && take(kind);
+                    return orders.addStep(kind, tokens.cursor) && tokens.take(kind);
                 case FORCE:
-                    at++;
-                    return take(Kind.OF) && orders.addStep(Kind.FORCE, at) && take(Kind.NAME);
+                    return tokens.take(Kind.FORCE) && tokens.take(Kind.OF)
+                            && orders.addStep(Kind.FORCE, tokens.cursor) && tokens.take(Kind.NAME);
                 case MINUS:
-                    return enter(Kind.MINUS, depth) && value(depth + 1) && orders.addStep(Kind.TURNED, at);
+                    return tokens.takeOpening(Kind.MINUS, depth) && value(tokens, orders, depth + 1)
+                            && orders.addStep(Kind.TURNED, 0);
                 case OPEN:
-                    return enter(Kind.OPEN, depth) && sum(depth + 1) && take(Kind.CLOSE);
+                    return tokens.takeOpening(Kind.OPEN, depth) && sum(tokens, orders, depth + 1)
+                            && tokens.take(Kind.CLOSE);
                 case MIN:
                 case MAX:
-                    at++;
-                    return enter(Kind.OPEN, depth) && sum(depth + 1) && take(Kind.COMMA) && sum(depth + 1)
-                            && take(Kind.CLOSE) && orders.addStep(kind, at);
+                    return tokens.take(kind) && tokens.takeOpening(Kind.OPEN, depth)
+                            && sum(tokens, orders, depth + 1) && tokens.take(Kind.COMMA)
+                            && sum(tokens, orders, depth + 1) && tokens.take(Kind.CLOSE) && orders.addStep(kind, 0);
                 default:
                     return false;
             }
@@ -740,123 +737,79 @@ public final class WeatherTea {
 
     /** Looks at the keywords, names and numbers of tokens that are a plan, and writes down fronts and guests. */
     private static final class Checker {
-        private final Tokens tokens;
-        private int error;
-        private int ordersSeen;
-        int errorToken;
 
-        Checker(Tokens tokens) {
-            this.tokens = tokens;
-            this.error = 0;
-            this.ordersSeen = 0;
-            this.errorToken = 0;
-        }
-
-        int check(Plan plan) {
-            error = 0;
-            ordersSeen = 0;
-            for (int i = 0; i < tokens.count && error == 0; i++) {
-                checkAt(i, plan);
+        static void check(Tokens tokens, Plan plan) {
+            int orders = 0;
+            for (int i = 0; i < tokens.count && tokens.error == 0; i++) {
+                if (beginsOrder(tokens.kindAt(i))) {
+                    orders++;
+                    tokens.failUnless(orders <= MOST_ORDERS, TOO_MANY, i);
+                }
+                checkBehind(tokens, i, plan);
             }
-            return error;
         }
 
-        private void checkAt(int token, Plan plan) {
-            switch (tokens.kindAt(token)) {
+        private static boolean beginsOrder(Kind kind) {
+            return kind == Kind.STEEP || kind == Kind.SERVE || kind == Kind.LEMON || kind == Kind.SAUCER;
+        }
+
+        /** Looks at the names and numbers that belong to one keyword. */
+        private static void checkBehind(Tokens tokens, int keyword, Plan plan) {
+            switch (tokens.kindAt(keyword)) {
                 case FRONT:
-                    checkFront(token, plan.fronts);
+                    checkFront(tokens, keyword + 1, plan.fronts);
                     break;
                 case GUEST:
-                    checkGuest(token, plan.guests);
+                    checkGuest(tokens, keyword + 1, plan.guests);
                     break;
                 case STEEP:
-                    countOrder(token);
-                    nameFront(token + 1, plan.fronts);
-                    break;
-                case SERVE:
-                    countOrder(token);
-                    nameGuest(token + 1, plan.guests);
-                    break;
-                case LEMON:
-                case SAUCER:
-                    countOrder(token);
-                    break;
                 case OVER:
                 case OF:
-                    nameFront(token + 1, plan.fronts);
+                    checkNamed(tokens, keyword + 1, plan.fronts.find(tokens.valueAt(keyword + 1)));
                     break;
+                case SERVE:
                 case SEATED:
                 case CONTENT:
-                    nameGuest(token + 1, plan.guests);
+                    checkNamed(tokens, keyword + 1, plan.guests.find(tokens.valueAt(keyword + 1)));
                     break;
                 default:
                     break;
             }
         }
 
-        /** Only the first error counts: a later one does not take its place. */
-        private void fail(int number, int token) {
-            if (error == 0) {
-                error = number;
-                errorToken = token;
-            }
+        private static void checkNamed(Tokens tokens, int name, int which) {
+            tokens.failUnless(which >= 0, NOT_TOLD, name);
+            tokens.setValue(name, which);
         }
 
-        private void failUnless(boolean right, int number, int token) {
-            if (!right) {
-                fail(number, token);
-            }
+        // name is warm|cold force number at number for number
+        private static void checkFront(Tokens tokens, int name, Fronts fronts) {
+            long called = tokens.valueAt(name);
+            tokens.failUnless(fronts.find(called) < 0, TOLD_TWICE, name);
+            tokens.failUnless(fronts.count < MOST_FRONTS, TOO_MANY, name);
+            boolean warm = tokens.kindAt(name + 2) == Kind.WARM;
+            int force = numberIn(tokens, name + 4, 1, 9);
+            int from = numberIn(tokens, name + 6, 0, 60);
+            int hours = numberIn(tokens, name + 8, 1, 12);
+            fronts.add(called, warm, force, from, hours);
         }
 
-        private void countOrder(int token) {
-            ordersSeen++;
-            failUnless(ordersSeen <= MOST_ORDERS, TOO_MANY, token);
+        // name at number likes number to number nerve number
+        private static void checkGuest(Tokens tokens, int name, Guests guests) {
+            long called = tokens.valueAt(name);
+            tokens.failUnless(guests.find(called) < 0, TOLD_TWICE, name);
+            tokens.failUnless(guests.count < MOST_GUESTS, TOO_MANY, name);
+            int from = numberIn(tokens, name + 2, 0, 60);
+            int weakest = numberIn(tokens, name + 4, 0, 30);
+            int strongest = numberIn(tokens, name + 6, weakest, 30);
+            int nerve = numberIn(tokens, name + 8, 0, 20);
+            guests.add(called, from, weakest, strongest, nerve);
         }
 
-        private void nameFront(int token, Fronts fronts) {
-            int front = fronts.find(tokens.valueAt(token));
-            failUnless(front >= 0, NOT_TOLD, token);
-            tokens.setValue(token, front);
-        }
-
-        private void nameGuest(int token, Guests guests) {
-            int guest = guests.find(tokens.valueAt(token));
-            failUnless(guest >= 0, NOT_TOLD, token);
-            tokens.setValue(token, guest);
-        }
-
-        private int numberAt(int token, int least, int most) {
+        private static int numberIn(Tokens tokens, int token, int least, int most) {
             int number = (int) tokens.valueAt(token);
-            failUnless(number >= least && number <= most, OUT_OF_RANGE, token);
+            tokens.failUnless(number >= least && number <= most, OUT_OF_RANGE, token);
             return number;
-        }
-
-        // front NAME is KIND force NUMBER at NUMBER for NUMBER
-        private void checkFront(int token, Fronts fronts) {
-            long name = tokens.valueAt(token + 1);
-            failUnless(fronts.find(name) < 0, TOLD_TWICE, token + 1);
-            failUnless(fronts.count < MOST_FRONTS, TOO_MANY, token + 1);
-            boolean warm = tokens.kindAt(token + 3) == Kind.WARM;
-            int force = numberAt(token + 5, 1, 9);
-            int from = numberAt(token + 7, 0, 60);
-            int hours = numberAt(token + 9, 1, 12);
-            if (error == 0) {
-                fronts.add(name, warm, force, from, hours);
-            }
-        }
-
-        // guest NAME at NUMBER likes NUMBER to NUMBER nerve NUMBER
-        private void checkGuest(int token, Guests guests) {
-            long name = tokens.valueAt(token + 1);
-            failUnless(guests.find(name) < 0, TOLD_TWICE, token + 1);
-            failUnless(guests.count < MOST_GUESTS, TOO_MANY, token + 1);
-            int from = numberAt(token + 3, 0, 60);
-            int weakest = numberAt(token + 5, 0, 30);
-            int strongest = numberAt(token + 7, weakest, 30);
-            int nerve = numberAt(token + 9, 0, 20);
-            if (error == 0) {
-                guests.add(name, from, weakest, strongest, nerve);
-            }
         }
     }
 
@@ -1091,11 +1044,15 @@ public final class WeatherTea {
                     push(-pop());
                     break;
                 default:
-                    int right = pop();
-                    int left = pop();
-                    push(join(kind, left, right));
+                    joinTwo(kind);
                     break;
             }
+        }
+
+        private void joinTwo(Kind sign) {
+            int right = pop();
+            int left = pop();
+            push(join(sign, left, right));
         }
 
         private static int join(Kind sign, int left, int right) {
@@ -1135,7 +1092,7 @@ public final class WeatherTea {
     /** The pot as it is, or as it would be. */
     private static final class Pot {
         private final Reckoner reckoner;
-        private Plan plan;
+        Plan plan;
         int hour;
         int warmth;
         int strength;
@@ -1148,15 +1105,15 @@ public final class WeatherTea {
         final boolean[] guestServed;
         final boolean[] guestStormed;
 
-        Pot(Plan plan) {
-            this.reckoner = new Reckoner();
-            this.plan = plan;
-            this.warmth = USUAL_WARMTH;
-            this.lemons = LEMONS_AT_FIRST;
-            this.saucers = SAUCERS_AT_FIRST;
-            this.frontSteeped = new boolean[MOST_FRONTS];
-            this.guestServed = new boolean[MOST_GUESTS];
-            this.guestStormed = new boolean[MOST_GUESTS];
+        Pot() {
+            reckoner = new Reckoner();
+            plan = new Plan();
+            warmth = USUAL_WARMTH;
+            lemons = LEMONS_AT_FIRST;
+            saucers = SAUCERS_AT_FIRST;
+            frontSteeped = new boolean[MOST_FRONTS];
+            guestServed = new boolean[MOST_GUESTS];
+            guestStormed = new boolean[MOST_GUESTS];
         }
 
         void begin(Plan told) {
