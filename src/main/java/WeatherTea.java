@@ -407,7 +407,6 @@ public final class WeatherTea {
 
         Tape() {
             bytes = new byte[TAPE_BYTES];
-            length = 0;
         }
 
         void append(int number) {
@@ -847,7 +846,6 @@ public final class WeatherTea {
             force = new int[MOST_FRONTS];
             from = new int[MOST_FRONTS];
             hours = new int[MOST_FRONTS];
-            count = 0;
         }
 
         boolean has(int front) {
@@ -889,7 +887,6 @@ public final class WeatherTea {
             weakest = new int[MOST_GUESTS];
             strongest = new int[MOST_GUESTS];
             nerve = new int[MOST_GUESTS];
-            count = 0;
         }
 
         boolean has(int guest) {
@@ -937,8 +934,6 @@ public final class WeatherTea {
             endSteps = new int[MOST_ORDERS];
             stepKinds = new Kind[MOST_TOKENS];
             stepValues = new int[MOST_TOKENS];
-            count = 0;
-            steps = 0;
             for (int i = 0; i < MOST_ORDERS; i++) {
                 deeds[i] = Kind.END;
             }
@@ -992,7 +987,6 @@ public final class WeatherTea {
 
         Reckoner() {
             stack = new int[MOST_TOKENS];
-            height = 0;
         }
 
         boolean holds(Orders orders, int order, Pot pot) {

@@ -47,6 +47,31 @@ public final class HoursTest {
         due.is("coinsAfter(30)", unchanged("coinsAfter(30)", tea, () -> tea.coinsAfter(30)), 11);
         tea.passHours(5);
         due.is("coinsAfter() tells all coins", tea.coinsAfter(1), 9);
+        // All that is in the pot counts for what would be: also the warmth, lemons, saucers and who was stormed.
+        WeatherTea cold = Tea.brewed("front a is warm force 6 at 0 for 1; guest g at 0 likes 1 to 9 nerve 12; serve g when charge < 12 and hour > 0;"
+                + "serve g when lemons = 1 and saucers = 2 and hour > 0 and storms = 1;");
+        cold.steep(0);
+        due.is("coinsAfter() of warm tea", cold.coinsAfter(2), 6);
+        cold.heat(12);
+        due.is("coinsAfter() of cold tea", cold.coinsAfter(3), 0);
+        due.is("coinsAfter() of tea that comes to 15", cold.coinsAfter(4), 6);
+        WeatherTea used = Tea.brewed("front a is warm force 6 at 0 for 1; guest g at 0 likes 1 to 9 nerve 20; serve g when lemons = 1 and saucers = 2;");
+        used.steep(0);
+        due.is("coinsAfter() with all lemons", used.coinsAfter(5), 0);
+        used.lemon();
+        used.lemon();
+        due.is("coinsAfter() with all saucers", used.coinsAfter(5), 0);
+        used.saucer();
+        due.is("coinsAfter() with what there is", used.coinsAfter(5), 6);
+        WeatherTea stormy = Tea.brewed("front a is warm force 6 at 0 for 1; guest g at 0 likes 1 to 9 nerve 2; serve g when hour > 0;");
+        stormy.steep(0);
+        stormy.lemon();
+        due.is("coinsAfter() without a storm", stormy.coinsAfter(5), 6);
+        stormy.lemon();
+        due.is("coinsAfter() with a storm to come", stormy.coinsAfter(5), 0);
+        stormy.passHours(1);
+        due.is("coinsAfter() behind a storm", stormy.coinsAfter(5), 0);
+        due.is("hoursUntilServed() of a stormed one", stormy.hoursUntilServed(0), -1);
         due.refuses("coinsAfter(0)", tea, IllegalArgumentException.class, () -> tea.coinsAfter(0));
         due.refuses("coinsAfter(31)", tea, IllegalArgumentException.class, () -> tea.coinsAfter(31));
         due.refuses("coinsAfter(-1)", tea, IllegalArgumentException.class, () -> tea.coinsAfter(-1));
@@ -144,5 +169,16 @@ public final class HoursTest {
         }
         due.is("digest()", unchanged("digest()", tea, tea::digest), d);
         due.is("digest() again", tea.digest(), d);
+        WeatherTea stormy = Tea.brewed("front a is cold force 3 at 1 for 4; guest g at 0 likes 0 to 9 nerve 0; guest h at 0 likes 0 to 9 nerve 20;");
+        stormy.lemon();
+        stormy.lemon();
+        stormy.lemon();
+        stormy.passHours(1);
+        stormy.saucer();
+        d = 1033;
+        for (int x : new int[] {1, 2, 1, 20, 0, 1, 0, 2, 0, 1, 1, 0, 1, 0, 1, 0, 0, 0, 0, 1, 1, 1, 0, 0}) {
+            d = d * 31 + x;
+        }
+        due.is("digest() behind a storm", stormy.digest(), d);
     }
 }

@@ -11,6 +11,7 @@ public final class LanguageTest {
         tape();
         teachKeepsAll();
         teachBeginsAnew();
+        teachAgainAndAgain();
         lines();
         tokens();
         tooLong();
@@ -123,9 +124,13 @@ public final class LanguageTest {
         tea.steep(0);
         tea.serve(0);
         tea.passHours(5);
-        due.is("a run was had before", tea.storms() > 0 && tea.stormed() > 0 && tea.served() > 0 && tea.coins() > 0, true);
-        due.is("teach() anew", Tea.teach(tea, FRONT + GUEST), 0);
-        String fresh = Tea.state(Tea.brewed(FRONT + GUEST));
+        tea.steep(1);
+        tea.heat(3);
+        due.is("a run was had before", tea.storms() > 0 && tea.wasStormed(1) && tea.wasServed(0) && tea.coins() > 0
+                && tea.strength() > 0 && tea.charge() > 0 && tea.lemons() < 3 && tea.saucers() < 3 && tea.isSteeped(0), true);
+        String two = FRONT + GUEST + "guest h at 0 likes 0 to 9 nerve 5;";
+        due.is("teach() anew", Tea.teach(tea, two), 0);
+        String fresh = Tea.state(Tea.brewed(two));
         due.is("all begins anew", Tea.state(tea).equals(fresh), true);
         due.is("fronts of the hour 0 are there", tea.isOver(0), true);
         due.is("guests of the hour 0 are there", tea.isSeated(0), true);
@@ -135,6 +140,23 @@ public final class LanguageTest {
         due.is("an empty plan: no fronts", tea.fronts(), 0);
         due.is("an empty plan: no guests", tea.guests(), 0);
         due.is("an empty plan: the hour", tea.hour(), 0);
+    }
+
+    /** Nothing of an earlier plan, right or not, may be left in a later one. */
+    private static void teachAgainAndAgain() {
+        WeatherTea tea = new WeatherTea();
+        String many = "lemon when 1" + Tea.times(150, "+1") + "=1;";
+        for (int i = 0; i < 6; i++) {
+            due.is("teach() with orders", Tea.teach(tea, "lemon; saucer;" + FRONT + GUEST), 0);
+            due.is("teach() without orders", Tea.teach(tea, FRONT + GUEST), 0);
+            due.is("teach() of an error behind orders", Tea.teach(tea, "lemon; saucer; steep f;"), 3);
+            due.is("teach() of many steps", Tea.teach(tea, many), 0);
+            due.is("fronts() of the plan without", tea.fronts(), 0);
+            due.is("teach() of a front", Tea.teach(tea, "front f is warm force 3 at 0 for 5;"), 0);
+            due.is("guests() of the plan without", tea.guests(), 0);
+            tea.passHours(2);
+            due.is("orders of the plan without", tea.lemons() + tea.saucers(), 6);
+        }
     }
 
     private static void lines() {
@@ -215,6 +237,54 @@ public final class LanguageTest {
         errorAtMark("lemon^{", 1);
         errorAtMark("lemon when 1 = 1^:", 1);
         errorAtMark("lemon when 1 = 1 ^,", 1);
+        similarNames();
+        cutOff();
+    }
+
+    /** Words of one and two signs are all told apart. */
+    private static void similarNames() {
+        String signs = "0123456789abcdefghijklmnopqrstuvwxyz";
+        java.util.List<String> names = new java.util.ArrayList<>();
+        for (int i = 10; i < 36; i++) {
+            names.add(signs.substring(i, i + 1));
+            for (int k = 0; k < 36; k++) {
+                String name = signs.substring(i, i + 1) + signs.charAt(k);
+                if (!java.util.List.of("is", "at", "to", "of", "or").contains(name)) {
+                    names.add(name);
+                }
+            }
+        }
+        WeatherTea tea = new WeatherTea();
+        for (int first = 0; first + 10 <= names.size(); first += 10) {
+            StringBuilder fronts = new StringBuilder();
+            for (int i = first; i < first + 10; i++) {
+                fronts.append("front ").append(names.get(i)).append(" is warm force 3 at 0 for 5;");
+            }
+            for (int i = first % 7; i < names.size(); i += 7) {
+                int want = i >= first && i < first + 10 ? 0 : 3;
+                due.is("steep " + names.get(i) + " behind " + fronts, Tea.teach(tea, fronts + "steep " + names.get(i) + ";"), want);
+            }
+        }
+        for (String other : new String[] {"a", "aa", "aaa", "aaaaaaaaaa", "a0", "a00", "a000000000", "z", "zzzzzzzzzz", "z999999999"}) {
+            for (String name : new String[] {"a", "aa", "aaa", "aaaaaaaaaa", "a0", "a00", "a000000000", "z", "zzzzzzzzzz", "z999999999"}) {
+                due.is(other + " and " + name, Tea.teach(tea, FRONT.replace(" f ", " " + other + " ") + "steep " + name + ";"),
+                        other.equals(name) ? 0 : 3);
+            }
+        }
+    }
+
+    /** What was trimmed off is not read. */
+    private static void cutOff() {
+        String text = "lemon when 1 <= 22 and hour > 3;";
+        for (int n = 0; n <= text.length(); n++) {
+            WeatherTea tea = new WeatherTea();
+            Tea.write(tea, text);
+            tea.trim(n);
+            boolean right = n == 0 || n == text.length();
+            due.is("teach() of the first " + n + " bytes", tea.teach(), right ? 0 : 1);
+            int wrongWord = n < 5 ? 0 : n > 6 && n < 10 ? 6 : n > 19 && n < 22 ? 19 : n > 23 && n < 27 ? 23 : n;
+            due.is("errorAt() of the first " + n + " bytes", tea.errorAt(), right ? -1 : wrongWord);
+        }
     }
 
     private static void tooLong() {
@@ -291,6 +361,8 @@ public final class LanguageTest {
         errorAtMark("lemon when " + Tea.times(8, "[") + "min^(1, 2) = 1" + Tea.times(8, "]") + ";", 1);
         plan("lemon when " + Tea.times(7, "[") + "min(1, 2) = 1" + Tea.times(7, "]") + ";");
         errorAtMark("lemon when " + Tea.times(7, "[") + "min(1, ^-2) = 1" + Tea.times(7, "]") + ";", 1);
+        errorAtMark("lemon when " + Tea.times(7, "[") + "max(^-1, 2) = 1" + Tea.times(7, "]") + ";", 1);
+        plan("lemon when " + Tea.times(6, "[") + "max(-1, -2) = 1" + Tea.times(6, "]") + ";");
         // What is closed counts no more, and a difference does not count.
         plan("lemon when " + Tea.times(8, "(") + "1" + Tea.times(8, ")") + " = " + Tea.times(8, "(") + "1" + Tea.times(8, ")") + ";");
         plan("lemon when 1-1-1-1-1-1-1-1-1-1-1 = 1;");

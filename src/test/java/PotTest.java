@@ -74,6 +74,8 @@ public final class PotTest {
         due.is("none, at 20", warmthBehind("", 20), 20);
         due.is("none, at 21", warmthBehind("", 21), 20);
         due.is("none, at 19", warmthBehind("", 19), 20);
+        due.is("one of force 1, away from 20", warmthBehind("front a is warm force 1 at 0 for 3;", 30), 31);
+        due.is("two that are even, away from 20", warmthBehind("front a is warm force 1 at 0 for 3; front b is cold force 1 at 0 for 3;", 30), 30);
         due.is("a front that has not come", warmthBehind("front a is warm force 9 at 1 for 3;", 10), 11);
         WeatherTea steeped = Tea.brewed(warm);
         steeped.steep(0);
@@ -181,6 +183,11 @@ public final class PotTest {
         WeatherTea last = Tea.brewed(sixteen + "steep f;");
         last.passHours(1);
         due.is("the 16th order", last.strength(), 5);
+        WeatherTea never = Tea.brewed(sixteen + "steep f when hour = 1;");
+        never.passHours(1);
+        due.is("the 16th order, with a test that does not hold", never.strength(), 0);
+        never.passHours(1);
+        due.is("the 16th order, with a test that holds", never.strength(), 5);
     }
 
     /** Whether a test holds in a pot with known numbers. */
