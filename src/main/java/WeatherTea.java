@@ -565,11 +565,11 @@ public final class WeatherTea {
         }
 
         Kind next() {
-            return kindAt(cursor);
+            return cursor < count ? kinds[cursor] : Kind.END;
         }
 
         boolean take(Kind kind) {
-            if (next() != kind) {
+            if (cursor >= count || kinds[cursor] != kind) {
                 return false;
             }
             cursor++;
@@ -578,11 +578,6 @@ public final class WeatherTea {
 
         boolean takeNumber(Kind ahead) {
             return take(ahead) && take(Kind.NUMBER);
-        }
-
-        /** What opens a greater depth does not fit where the depth would be too great behind it. */
-        boolean takeOpening(Kind opening, int depth) {
-            return depth < MOST_DEPTH && take(opening);
         }
 
         /** An error found later does not take the place of an earlier one. */
@@ -596,7 +591,8 @@ public final class WeatherTea {
 
     /**
      * Looks whether tokens are a plan, and writes down the orders with the steps of their tests. Each function returns
-     * whether the tokens fit; if not, the cursor stays at the first one that does not.
+     * whether the tokens fit; if not, the cursor stays at the first one that does not. What opens a greater depth does
+     * not fit where the depth would be too great behind it.
      */
     private static final class Grammar {
 
@@ -658,10 +654,10 @@ public final class WeatherTea {
             Kind kind = tokens.next();
             switch (kind) {
                 case NOT:
-                    return tokens.takeOpening(Kind.NOT, depth) && single(tokens, orders, depth + 1)
+                    return depth < MOST_DEPTH && tokens.take(Kind.NOT) && single(tokens, orders, depth + 1)
                             && orders.addStep(Kind.NOT, 0);
                 case OPEN_TEST:
-                    return tokens.takeOpening(Kind.OPEN_TEST, depth) && test(tokens, orders, depth + 1)
+                    return depth < MOST_DEPTH && tokens.take(Kind.OPEN_TEST) && test(tokens, orders, depth + 1)
                             && tokens.take(Kind.CLOSE_TEST);
                 case OVER:
                 case SEATED:
@@ -718,14 +714,14 @@ public final class WeatherTea {
                     return tokens.take(Kind.FORCE) && tokens.take(Kind.OF)
                             && orders.addStep(Kind.FORCE, tokens.cursor) && tokens.take(Kind.NAME);
                 case MINUS:
-                    return tokens.takeOpening(Kind.MINUS, depth) && value(tokens, orders, depth + 1)
+                    return depth < MOST_DEPTH && tokens.take(Kind.MINUS) && value(tokens, orders, depth + 1)
                             && orders.addStep(Kind.TURNED, 0);
                 case OPEN:
-                    return tokens.takeOpening(Kind.OPEN, depth) && sum(tokens, orders, depth + 1)
+                    return depth < MOST_DEPTH && tokens.take(Kind.OPEN) && sum(tokens, orders, depth + 1)
                             && tokens.take(Kind.CLOSE);
                 case MIN:
                 case MAX:
-                    return tokens.take(kind) && tokens.takeOpening(Kind.OPEN, depth)
+                    return tokens.take(kind) && depth < MOST_DEPTH && tokens.take(Kind.OPEN)
                             && sum(tokens, orders, depth + 1) && tokens.take(Kind.COMMA)
                             && sum(tokens, orders, depth + 1) && tokens.take(Kind.CLOSE) && orders.addStep(kind, 0);
                 default:

@@ -69,7 +69,11 @@ public final class HoursTest {
         due.is("coinsAfter() without a storm", stormy.coinsAfter(5), 6);
         stormy.lemon();
         due.is("coinsAfter() with a storm to come", stormy.coinsAfter(5), 0);
+        stormy.saucer();
+        due.is("coinsAfter() with the storm put off", stormy.coinsAfter(5), 6);
+        stormy.lemon();
         stormy.passHours(1);
+        due.is("a storm came", stormy.wasStormed(0), true);
         due.is("coinsAfter() behind a storm", stormy.coinsAfter(5), 0);
         due.is("hoursUntilServed() of a stormed one", stormy.hoursUntilServed(0), -1);
         due.refuses("coinsAfter(0)", tea, IllegalArgumentException.class, () -> tea.coinsAfter(0));

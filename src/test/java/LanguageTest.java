@@ -156,6 +156,9 @@ public final class LanguageTest {
             due.is("guests() of the plan without", tea.guests(), 0);
             tea.passHours(2);
             due.is("orders of the plan without", tea.lemons() + tea.saucers(), 6);
+            due.is("teach() of one order", Tea.teach(tea, "lemon;"), 0);
+            tea.passHours(1);
+            due.is("orders of the plan with one", tea.lemons() * 10 + tea.saucers(), 23);
         }
     }
 
