@@ -1,3 +1,8 @@
+import java.lang.reflect.InvocationTargetException;
+import java.lang.reflect.Method;
+import java.util.Arrays;
+import java.util.Comparator;
+
 /** Compares what calls answer with what is due, and tells every difference. */
 final class Due {
 
@@ -6,7 +11,7 @@ final class Due {
         long answer();
     }
 
-    private final String test;
+    private String test;
     private int asked = 0;
     private int wrong = 0;
 
@@ -52,6 +57,35 @@ final class Due {
             wrong++;
             System.out.println(test + ": " + what + " was refused, but changed something");
         }
+    }
+
+    /** Runs every test of a class, one for each sentence: its functions that take nothing and answer nothing. */
+    void runAll(Class<?> tests) {
+        Method[] all = tests.getDeclaredMethods();
+        Arrays.sort(all, Comparator.comparing(Method::getName));
+        int run = 0;
+        for (Method one : all) {
+            if (one.getParameterCount() == 0 && one.getReturnType() == void.class && !one.isSynthetic()) {
+                test = tests.getSimpleName() + "." + one.getName();
+                run(one);
+                run++;
+            }
+        }
+        test = tests.getSimpleName();
+        System.out.println(test + ": " + run + " sentences");
+        end();
+    }
+
+    private void run(Method one) {
+        int before = asked;
+        try {
+            one.invoke(null);
+        } catch (InvocationTargetException e) {
+            throw new AssertionError(test + " threw", e.getCause());
+        } catch (IllegalAccessException e) {
+            throw new AssertionError(test + " is hidden", e);
+        }
+        is("asks something", asked > before, true);
     }
 
     void end() {

@@ -2,6 +2,7 @@
 public final class LanguageTest {
 
     private static final Due due = new Due("LanguageTest");
+    private static final Reading reading = new Reading(due);
 
     private static final String FRONT = "front f is warm force 3 at 0 for 5;";
     private static final String GUEST = "guest g at 0 likes 0 to 9 nerve 5;";
@@ -27,31 +28,11 @@ public final class LanguageTest {
     }
 
     private static void plan(String text) {
-        error(text, 0, -1);
+        reading.plan(text);
     }
 
-    /** The text has this error, at this byte, and the plan that was told before stays. */
-    private static void error(String text, int want, int at) {
-        WeatherTea tea = Tea.brewed("front x is cold force 2 at 0 for 9;");
-        due.is("teach() of <" + text + ">", Tea.teach(tea, text), want);
-        due.is("errorAt() of <" + text + ">", tea.errorAt(), at);
-        due.is("trim(1) behind <" + text + ">", isEmpty(tea), true);
-        due.is("the old plan behind <" + text + ">", tea.fronts() == 1 && tea.forceOf(0) == 2, want != 0 || text.contains("front x is cold force 2"));
-    }
-
-    /** The text before the mark ^ and the one behind it, joined, have the error at the mark. */
     private static void errorAtMark(String marked, int want) {
-        int mark = marked.indexOf('^');
-        error(marked.substring(0, mark) + marked.substring(mark + 1), want, mark);
-    }
-
-    private static boolean isEmpty(WeatherTea tea) {
-        try {
-            tea.trim(1);
-            return false;
-        } catch (IllegalArgumentException e) {
-            return true;
-        }
+        reading.errorAtMark(marked, want);
     }
 
     private static void newObject() {
@@ -67,7 +48,7 @@ public final class LanguageTest {
         due.is("coins() at first", tea.coins(), 0);
         due.is("storms() at first", tea.storms(), 0);
         due.is("errorAt() at first", tea.errorAt(), -1);
-        due.is("the tape is empty at first", isEmpty(tea), true);
+        due.is("the tape is empty at first", Reading.isEmpty(tea), true);
         tea.passHours(30);
         due.is("no order is followed at first", tea.lemons() + tea.saucers(), 6);
     }
@@ -390,7 +371,7 @@ public final class LanguageTest {
         errorAtMark(Tea.times(100, four) + "^lemon;", 1);
         errorAtMark(Tea.times(100, four) + " \n ^lemon;", 1);
         errorAtMark(Tea.times(100, four) + "^@", 1);
-        error(Tea.times(100, four) + "  \n", 4, 16 * 6);
+        reading.error(Tea.times(100, four) + "  \n", 4, 16 * 6);
         errorAtMark(Tea.times(99, four) + "lemon;lemon^", 1);
     }
 

@@ -25,6 +25,7 @@ public final class ModelTest {
         for (int i = 0; i < 6000; i++) {
             spoil();
         }
+        eachTokenBehindEachBeginning();
         System.out.println("ModelTest: right plans " + told[0] + ", errors 1 to 5: " + told[1] + " " + told[2] + " " + told[3]
                 + " " + told[4] + " " + told[5] + ", stormed " + stormed + ", served " + served + ", steeped " + steeped);
         for (int error = 0; error <= 5; error++) {
@@ -314,6 +315,23 @@ public final class ModelTest {
         }
         if (text.length() <= 2000) {
             taught(new WeatherTea(), new Model(), text.toString());
+        }
+    }
+
+    /** So that each place of the grammar has met each token. */
+    private static void eachTokenBehindEachBeginning() {
+        String[] plans = {"front n0 is warm force 7 at 0 for 1 ; guest n1 at 1 likes 0 to 7 nerve 1 ; steep n0 ;",
+            "front n0 is cold force 1 at 0 for 1 ; steep n0 when over n0 ;", "guest n1 at 1 likes 0 to 7 nerve 1 ; serve n1 when content n1 and seated n1 ;",
+            "lemon when not [ 1 = - 1 or 7 < hour + 1 ] and ( 7 ) * 1 >= min ( 1 , 7 ) / max ( charge , 0 ) ;",
+            "front n0 is cold force 1 at 0 for 1 ; saucer when force of n0 - 1 <= [ ;"};
+        for (String plan : plans) {
+            StringBuilder ahead = new StringBuilder();
+            for (String token : plan.split(" ")) {
+                for (String word : WORDS) {
+                    taught(new WeatherTea(), new Model(), ahead + word + " ;");
+                }
+                ahead.append(token).append(' ');
+            }
         }
     }
 }

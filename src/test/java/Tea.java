@@ -62,6 +62,46 @@ final class Tea {
         return all.toString();
     }
 
+    /** Fronts with a force of so much in all, named by a prefix and a number. */
+    static String fronts(String prefix, String kind, int force, int at, int hours) {
+        StringBuilder text = new StringBuilder();
+        for (int left = force, i = 0; left > 0; left -= 9, i++) {
+            text.append("front ").append(prefix).append(i).append(" is ").append(kind).append(" force ").append(Math.min(9, left))
+                    .append(" at ").append(at).append(" for ").append(hours).append(';');
+        }
+        return text.toString();
+    }
+
+    /** A pot at the hour 0, with tea so strong; its first fronts, up to four, were steeped for that. */
+    static WeatherTea strong(int strength, String plan) {
+        String steeped = fronts("steeped", "warm", strength, 0, 1);
+        WeatherTea tea = brewed(steeped + plan);
+        for (int i = 0; i < (strength + 8) / 9; i++) {
+            tea.steep(i);
+        }
+        return tea;
+    }
+
+    /** A pot at the hour 1, with a charge of 0 to 18; its first fronts, up to eight, have brought it and are gone. */
+    static WeatherTea charged(int charge, String plan) {
+        int brought = charge < 12 ? charge : charge + 12;
+        WeatherTea tea = brewed(fronts("w", "warm", brought, 0, 1) + fronts("c", "cold", brought, 0, 1) + plan);
+        tea.passHours(1);
+        return tea;
+    }
+
+    /** Whether a test holds in a new pot. */
+    static boolean holds(String test) {
+        return holds("", test);
+    }
+
+    /** Whether a test holds in a pot with this plan, at the hour 0. */
+    static boolean holds(String plan, String test) {
+        WeatherTea tea = brewed(plan + "saucer when " + test + ";");
+        tea.passHours(1);
+        return tea.saucers() == 2;
+    }
+
     static String times(int n, String text) {
         return text.repeat(n);
     }
