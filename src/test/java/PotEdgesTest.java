@@ -316,6 +316,39 @@ public final class PotEdgesTest {
         due.is("served once", tea.coins(), 1);
     }
 
+    /**
+     * Promise 32: "Steeping: the strength is as much more as the force of the front, at most 30"
+     * Promise 32: "the strength is 3 less then, at least 0"
+     */
+    static void steepingAndServingByOrder() {
+        for (int strength : new int[] {0, 1, 2, 3, 4, 20, 21, 22, 29, 30}) {
+            WeatherTea steep = Tea.strong(strength, "front f is cold force 9 at 0 for 1; steep f;");
+            steep.passHours(1);
+            due.is("steep by order at " + strength, steep.strength(), Math.min(30, strength + 9));
+            WeatherTea serve = Tea.strong(strength, "guest g at 0 likes 0 to 30 nerve 0; serve g;");
+            serve.passHours(1);
+            due.is("strength() behind serve by order at " + strength, serve.strength(), Math.max(0, strength - 3));
+            due.is("coins() behind serve by order at " + strength, serve.coins(), strength);
+        }
+    }
+
+    /**
+     * Promise 32: "Lemon: the charge is 6 more, at most 30"
+     * Promise 32: "Saucer: the charge is 5 less, at least 0"
+     */
+    static void lemonsAndSaucersByOrder() {
+        for (int charge = 0; charge <= 18; charge++) {
+            int held = Math.min(30, charge + 18);
+            WeatherTea lemons = Tea.charged(charge, "lemon when hour=1; lemon when hour=1; lemon when hour=1; saucer when charge=" + held + " and hour=1;");
+            lemons.passHours(1);
+            due.is("three lemons by order at " + charge, lemons.saucers(), 2);
+            due.is("charge() behind them, a saucer and a storm", lemons.charge(), held - 5 - (held - 5 >= 12 ? 12 : 0));
+            WeatherTea saucers = Tea.charged(charge, "saucer when hour=1; saucer when hour=1; saucer when hour=1;");
+            saucers.passHours(1);
+            due.is("three saucers by order at " + charge, saucers.charge(), Math.max(0, charge - 15));
+        }
+    }
+
     /** Promise 32: "if the test holds" */
     static void anOrderWithoutATestIsAlwaysFollowed() {
         WeatherTea tea = Tea.brewed("lemon; lemon when 1=2;");
