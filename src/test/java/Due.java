@@ -27,6 +27,10 @@ final class Due {
         }
     }
 
+    void is(String what, String got, String want) {
+        is(what + ": <" + got + ">, due is <" + want + ">,", got.equals(want), true);
+    }
+
     void is(String what, boolean got, boolean want) {
         is(what, got ? 1L : 0L, want ? 1L : 0L);
     }

@@ -1,36 +1,31 @@
+import java.io.IOException;
 import java.lang.reflect.Constructor;
 import java.lang.reflect.Field;
 import java.lang.reflect.Method;
 import java.lang.reflect.Modifier;
+import java.nio.file.Files;
+import java.nio.file.Path;
 import java.util.ArrayList;
-import java.util.Arrays;
 import java.util.List;
 import java.util.TreeSet;
+import java.util.regex.Matcher;
+import java.util.regex.Pattern;
 
-/** The class has the document's face, and nothing beside it. */
+/** The class has the document's face, and nothing beside it. It is run in the project's own folder. */
 public final class FaceTest {
 
-    private static final String[] FACE = {
-        "int feed(int,int,int,int,int) IllegalStateException", "int trim(int) IllegalArgumentException", "int teach()",
-        "int errorAt()", "int fronts()", "int guests()", "int hour()", "int warmth()", "int strength()", "int charge()",
-        "int lemons()", "int saucers()", "int coins()", "int storms()", "int seatedGuests()", "int served()",
-        "int stormed()", "boolean isWarm(int) IndexOutOfBoundsException", "int forceOf(int) IndexOutOfBoundsException",
-        "boolean isOver(int) IndexOutOfBoundsException", "boolean isSteeped(int) IndexOutOfBoundsException",
-        "boolean isSeated(int) IndexOutOfBoundsException", "boolean isContent(int) IndexOutOfBoundsException",
-        "boolean wasServed(int) IndexOutOfBoundsException", "boolean wasStormed(int) IndexOutOfBoundsException",
-        "int steep(int) IndexOutOfBoundsException IllegalStateException", "int lemon() IllegalStateException",
-        "int saucer() IllegalStateException", "int serve(int) IndexOutOfBoundsException IllegalStateException",
-        "int heat(int) IllegalArgumentException", "int passHours(int) IllegalArgumentException",
-        "int coinsAfter(int) IllegalArgumentException", "int hoursUntilStorm()",
-        "int hoursUntilServed(int) IndexOutOfBoundsException", "int bestToSteep()", "double meanForce()",
-        "long digest()"};
+    private static final Due due = new Due("FaceTest");
+    private static final int PROMISES = 38;
+    private static final Pattern CALL = Pattern.compile("    public (\\w+ \\w+)\\((.*)\\)(?: throws (.*))?;");
+    private static final Pattern PROMISE = Pattern.compile("## Promise (\\d+): ([\\w ]+)\\s+`([^`]*)`:");
+    private static final Pattern AHEAD = Pattern.compile("Ahead of the calls (.*) the interface says: (---- [\\w ]+)\\.");
 
-    public static void main(String[] args) {
-        Due due = new Due("FaceTest");
-        due.is("public and final", WeatherTea.class.getModifiers(), Modifier.PUBLIC | Modifier.FINAL);
-        TreeSet<String> want = new TreeSet<>(Arrays.asList(FACE));
+    public static void main(String[] args) throws IOException {
+        String document = Files.readString(Path.of("../shared/DOC.md"));
+        TreeSet<String> want = told(document);
+        due.is("the document's calls", want.size(), PROMISES - 1);
         TreeSet<String> got = new TreeSet<>();
-        List<String> privates = new ArrayList<>();
+        TreeSet<String> privates = new TreeSet<>();
         for (Method method : WeatherTea.class.getDeclaredMethods()) {
             if (Modifier.isPrivate(method.getModifiers())) {
                 privates.add(method.getName());
@@ -39,9 +34,25 @@ public final class FaceTest {
             }
         }
         if (!got.equals(want)) {
-            System.out.println("the face is " + got);
+            System.out.println("the face is " + got + ", the document's is " + want);
         }
         due.is("the face is the document's", got.equals(want), true);
+        due.is("public and final", WeatherTea.class.getModifiers(), Modifier.PUBLIC | Modifier.FINAL);
+        due.is("the document says so", document.contains("public final class WeatherTea {"), true);
+        theClassesInside(privates);
+        for (Method method : WeatherTea.class.getDeclaredMethods()) {
+            if (Modifier.isPublic(method.getModifiers())) {
+                due.is("a method inside is called " + method.getName(), privates.contains(method.getName()), false);
+            }
+        }
+        theConstructor(document);
+        thePromisesAreOfTheFace(document);
+        theSourceIsParted(document);
+        due.end();
+    }
+
+    /** Adds the names of the methods that they have. */
+    private static void theClassesInside(TreeSet<String> privates) {
         for (Class<?> inside : WeatherTea.class.getDeclaredClasses()) {
             due.is(inside + " is static", Modifier.isStatic(inside.getModifiers()), true);
             due.is(inside + " is not public", Modifier.isPublic(inside.getModifiers()), false);
@@ -49,11 +60,9 @@ public final class FaceTest {
                 privates.add(method.getName());
             }
         }
-        for (Method method : WeatherTea.class.getDeclaredMethods()) {
-            if (Modifier.isPublic(method.getModifiers())) {
-                due.is("a method inside is called " + method.getName(), privates.contains(method.getName()), false);
-            }
-        }
+    }
+
+    private static void theConstructor(String document) {
         for (Field field : WeatherTea.class.getDeclaredFields()) {
             due.is(field + " is private", Modifier.isPrivate(field.getModifiers()), true);
         }
@@ -61,7 +70,20 @@ public final class FaceTest {
         due.is("constructors", constructors.length, 1);
         due.is("the constructor is public", Modifier.isPublic(constructors[0].getModifiers()), true);
         due.is("its parameters", constructors[0].getParameterCount(), 0);
-        due.end();
+        due.is("what it throws", constructors[0].getExceptionTypes().length, 0);
+        due.is("the document says so", document.contains("\n    public WeatherTea();\n"), true);
+    }
+
+    /** The calls that the document's face tells, each with its answer, parameters and exceptions, in their order. */
+    private static TreeSet<String> told(String document) {
+        TreeSet<String> calls = new TreeSet<>();
+        Matcher call = CALL.matcher(document);
+        while (call.find()) {
+            String parameters = call.group(2).replaceAll("(\\w+) \\w+", "$1").replace(", ", ",");
+            String thrown = call.group(3) == null ? "" : " " + call.group(3).replace(",", "");
+            calls.add(call.group(1) + "(" + parameters + ")" + thrown);
+        }
+        return calls;
     }
 
     private static String described(Method method) {
@@ -78,5 +100,41 @@ public final class FaceTest {
             text.append(' ').append(thrown.getSimpleName());
         }
         return text.toString();
+    }
+
+    /** The promises tell the same calls as the face, in the same order. */
+    private static void thePromisesAreOfTheFace(String document) {
+        int at = document.indexOf("    public WeatherTea();");
+        int number = 0;
+        Matcher promise = PROMISE.matcher(document);
+        while (promise.find()) {
+            number++;
+            due.is("the number of promise " + number, Integer.parseInt(promise.group(1)), number);
+            int next = document.indexOf("    public " + promise.group(3) + ";", at);
+            due.is("promise " + number + " is of the face: " + promise.group(3), next >= at, true);
+            due.is("its name", number == 1 || promise.group(3).contains(" " + promise.group(2) + "("), true);
+            at = Math.max(at, next);
+        }
+        due.is("promises", number, PROMISES);
+    }
+
+    /** The source has the document's headings, each ahead of its calls and behind the calls of the one before. */
+    private static void theSourceIsParted(String document) throws IOException {
+        String source = Files.readString(Path.of("src/main/java/WeatherTea.java"));
+        int at = source.indexOf("    public WeatherTea() {");
+        int calls = 0;
+        Matcher part = AHEAD.matcher(document);
+        while (part.find()) {
+            int heading = source.indexOf("\n    // " + part.group(2) + "\n", at);
+            due.is("the source says " + part.group(2), heading > at, true);
+            at = heading;
+            for (String call : part.group(1).replace("`", "").split(", ")) {
+                int next = source.indexOf(" " + call + "(", at);
+                due.is(call + " stands in its place", next > at, true);
+                at = next;
+                calls++;
+            }
+        }
+        due.is("calls behind a heading", calls, PROMISES - 1);
     }
 }

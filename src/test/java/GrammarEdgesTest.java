@@ -154,7 +154,10 @@ public final class GrammarEdgesTest {
 
     // ---- depth
 
-    /** Promise 4: "It may be at most 8." */
+    /**
+     * Promise 4: "Depth. It is 0 at the beginning"
+     * Promise 4: "It may be at most 8."
+     */
     static void theDepthIsAtMost8() {
         reading.plan("lemon when " + "(".repeat(8) + "1" + ")".repeat(8) + "=1;");
         reading.plan("lemon when " + "[".repeat(8) + "1=1" + "]".repeat(8) + ";");

@@ -360,7 +360,7 @@ public final class PotEdgesTest {
 
     // ---- an hour: warmth and charge
 
-    /** Promise 32: "as much less as all cold ones have, both at once, held at 0 and 40" */
+    /** Promise 32: "The warmth is as much more as all warm fronts over the pot have force, and as much less as all cold ones have, both at once, held at 0 and 40" */
     static void theWarmthIsHeldAt0And40() {
         due.is("31 and 9", warmthBehind(31, 9, 0), 40);
         due.is("32 and 9", warmthBehind(32, 9, 0), 40);
@@ -402,7 +402,7 @@ public final class PotEdgesTest {
         due.is("a front steeped in this hour", steeped.warmth(), 29);
     }
 
-    /** Promise 32: "as much more as those of the kind of both have force that have less of it (0, if there are none of one kind), at most 30" */
+    /** Promise 32: "The charge is as much more as those of the kind of both have force that have less of it (0, if there are none of one kind), at most 30" */
     static void theChargeIsTheLesserForceMore() {
         due.is("1 and 9", chargeBehind(0, 1, 9), 1);
         due.is("9 and 1", chargeBehind(0, 9, 1), 1);
@@ -420,7 +420,10 @@ public final class PotEdgesTest {
 
     // ---- an hour: storms
 
-    /** Promise 32: "If the charge is 12 or more, there is a storm" */
+    /**
+     * Promise 32: "If the charge is 12 or more, there is a storm"
+     * Promise 32: "and the charge 12 less"
+     */
     static void aStormAt12() {
         for (int force = 1; force <= 30; force++) {
             WeatherTea tea = Tea.brewed(Tea.fronts("w", "warm", force, 0, 1) + Tea.fronts("c", "cold", force, 0, 1));

@@ -73,7 +73,10 @@ public final class TapeEdgesTest {
 
     // ---- feed
 
-    /** Promise 2: "Appends twenty bytes to the tape: the four bytes of each number, the highest one first." */
+    /**
+     * Promise 2: "Appends twenty bytes to the tape: the four bytes of each number, the highest one first."
+     * Promise 2: "- `a`: bytes 1 to 4 - `b`: bytes 5 to 8 - `c`: bytes 9 to 12 - `d`: bytes 13 to 16 - `e`: bytes 17 to 20"
+     */
     static void eachByteHasItsPlace() {
         for (int place = 0; place < 20; place++) {
             for (int sign : new int[] {0, ';', 127, 128, 255}) {
@@ -131,7 +134,7 @@ public final class TapeEdgesTest {
 
     // ---- trim
 
-    /** Promise 3: "Shortens the tape to its first bytes." */
+    /** Promise 3: "Shortens the tape to its first bytes. - `n`: how many are kept" */
     static void trimKeepsTheFirstBytes() {
         String text = "lemon;saucer;lemon;saucer;";
         int[] lengths = {0, 6, 13, 19, 26};
@@ -202,7 +205,10 @@ public final class TapeEdgesTest {
 
     // ---- the tape of teach
 
-    /** Promise 4: "teach reads it as a plan, and it is empty behind it." */
+    /**
+     * Promise 4: "teach reads it as a plan, and it is empty behind it."
+     * Promise 4: "Reads the tape as a plan"
+     */
     static void theTapeIsEmptyBehindTeach() {
         for (String text : new String[] {"", "  \n", "lemon;", "lemon", "steep f;", "@", "lemon;".repeat(17)}) {
             WeatherTea tea = new WeatherTea();
@@ -408,7 +414,11 @@ public final class TapeEdgesTest {
         }
     }
 
-    /** Promise 4: "All other words are names." */
+    /**
+     * Promise 4: "The keywords are: front is warm cold at for force guest likes to nerve steep lemon saucer serve when hour warmth"
+     * Promise 4: "strength charge lemons saucers seated over storms content of not and or min max."
+     * Promise 4: "All other words are names."
+     */
     static void keywordsAreNoNames() {
         String[] keywords = ("front is warm cold at for force guest likes to nerve steep lemon saucer serve when hour warmth"
                 + " strength charge lemons saucers seated over storms content of not and or min max").split(" ");
